@@ -323,7 +323,8 @@ public final class InningsHouse {
         if (!isStriker(striker) || !within(what, 0, 1)) {
             return BAD;
         }
-        return asks.answerOf(strikers[striker], what);
+        asks.left = 0;
+        return what == 0 ? asks.sizeOf(strikers[striker], 0) : asks.markOf(strikers[striker], 0);
     }
 
     public int trace(int i) {
@@ -825,24 +826,20 @@ public final class InningsHouse {
 
         int told(int halves, int leadOfZero, int standing, int n, int what) {
             int lead = leadOfZero + MOST_LEAD;
-            if (halves == 0 || standing == OVER || n == 0) {
-                return toldWithoutChoice(halves, lead, what);
+            boolean noChoice = halves == 0 || standing == OVER || n == 0;
+            if (noChoice && what != 0) {
+                return what == 1 ? NONE : 0;
             }
-            learnStarts(halves - 1);
+            int halvesBehind = Math.max(halves - 1, 0);
+            learnStarts(halvesBehind);
+            if (noChoice) {
+                return starts[halvesBehind * LEADS + lead];
+            }
             fillHalf(halves, n);
             if (what == 0) {
                 return wins[lead * STANDINGS + standing];
             }
             return what == 1 ? choiceAt(lead, standing) : walkIsBetter(lead, standing);
-        }
-
-        private int toldWithoutChoice(int halves, int lead, int what) {
-            if (what == 0) {
-                int left = Math.max(halves - 1, 0);
-                learnStarts(left);
-                return starts[left * LEADS + lead];
-            }
-            return what == 1 ? NONE : 0;
         }
 
         private void learnStarts(int halves) {
@@ -864,7 +861,11 @@ public final class InningsHouse {
                 int[] spare = winsBehind;
                 winsBehind = wins;
                 wins = spare;
-                fillStrike();
+                for (int lead = 0; lead < LEADS; lead++) {
+                    for (int standing = 0; standing < OVER; standing++) {
+                        wins[lead * STANDINGS + standing] = winByBest(lead, standing);
+                    }
+                }
             }
         }
 
@@ -877,33 +878,29 @@ public final class InningsHouse {
             }
         }
 
-        private void fillStrike() {
-            for (int lead = 0; lead < LEADS; lead++) {
-                for (int standing = 0; standing < OVER; standing++) {
-                    wins[lead * STANDINGS + standing] = bestWin(lead, standing);
-                }
+        private int winByBest(int lead, int standing) {
+            int win = winByStrike(lead, standing);
+            if (Bases.someoneIsOn(standing)) {
+                win = betterOf(win, winAfter(lead, standing, BUNT));
             }
+            if (Bases.canSteal(standing)) {
+                win = betterOf(win, winBySteal(lead, standing));
+            }
+            return win;
         }
 
-        private int bestWin(int lead, int standing) {
-            int most = winBy(STRIKE_IT, lead, standing);
-            for (int choice = BUNT_IT; choice <= STEAL_IT; choice++) {
-                if (canChoose(choice, standing)) {
-                    int other = winBy(choice, lead, standing);
-                    most = strikingTeam == 0 ? Math.max(most, other) : Math.min(most, other);
-                }
-            }
-            return most;
+        private int betterOf(int win, int other) {
+            return strikingTeam == 0 ? Math.max(win, other) : Math.min(win, other);
         }
 
+        /** The first of the choices that give WIN. */
         private int choiceAt(int lead, int standing) {
             int win = wins[lead * STANDINGS + standing];
-            for (int choice = STRIKE_IT; choice < STEAL_IT; choice++) {
-                if (canChoose(choice, standing) && winBy(choice, lead, standing) == win) {
-                    return choice;
-                }
+            if (winByStrike(lead, standing) == win) {
+                return STRIKE_IT;
             }
-            return STEAL_IT;
+            boolean byBunt = Bases.someoneIsOn(standing) && winAfter(lead, standing, BUNT) == win;
+            return byBunt ? BUNT_IT : STEAL_IT;
         }
 
         private int walkIsBetter(int lead, int standing) {
@@ -913,33 +910,20 @@ public final class InningsHouse {
             return better ? 1 : 0;
         }
 
-        private static boolean canChoose(int choice, int standing) {
-            if (choice == BUNT_IT) {
-                return Bases.someoneIsOn(standing);
-            }
-            return choice == STRIKE_IT || Bases.canSteal(standing);
-        }
-
-        private int winBy(int choice, int lead, int standing) {
-            if (choice == BUNT_IT) {
-                return winAfter(lead, standing, BUNT);
-            }
-            Striker striker = strikers[teams[strikingTeam]];
-            if (choice == STRIKE_IT) {
-                return winByStrike(striker.chances, lead, standing);
-            }
-            int caught = WHOLE - striker.steals;
-            return (striker.steals * winAfter(lead, standing, STEAL)
-                    + caught * winAfter(lead, standing, CAUGHT)) / WHOLE;
-        }
-
-        private int winByStrike(int[] chances, int lead, int standing) {
+        private int winByStrike(int lead, int standing) {
+            int[] chances = strikers[teams[strikingTeam]].chances;
             int sum = 0;
             for (int act = OUT; act <= HOMER; act++) {
                 if (chances[act] > 0) {
                     sum += chances[act] * winAfter(lead, standing, act);
                 }
             }
+            return sum / WHOLE;
+        }
+
+        private int winBySteal(int lead, int standing) {
+            int steals = strikers[teams[strikingTeam]].steals;
+            int sum = steals * winAfter(lead, standing, STEAL) + (WHOLE - steals) * winAfter(lead, standing, CAUGHT);
             return sum / WHOLE;
         }
 
@@ -1031,11 +1015,6 @@ public final class InningsHouse {
 
         final int[] numbers = new int[MOST_TRACED];
         int left;
-
-        int answerOf(Striker striker, int what) {
-            left = 0;
-            return what == 0 ? sizeOf(striker, 0) : markOf(striker, 0);
-        }
 
         private int sizeOf(Striker striker, int depth) {
             if (depth > DEEPEST) {
