@@ -638,7 +638,8 @@ public final class ModelTest {
 
         void same(String call, int got, int want) {
             calls++;
-            if (got != want) {
+            // What later calls answer is free.
+            if (got != want && calls <= CALLS) {
                 wrong++;
                 System.out.println("seed " + seed + ", call " + calls + ": " + call + " answered " + got
                     + ", the model " + want);

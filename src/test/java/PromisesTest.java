@@ -1,19 +1,5 @@
 /** For each promise of the document ordinary inputs, the edges it names, and wrong inputs; the answers are by hand. */
-public final class PromisesTest {
-    private static final int NONE = -1000000, BAD = -1000001, STATE = -1000002, FULL = -1000003;
-    private static final int NULL = -1000011, PLACE = -1000012, KIND = -1000013, SIZE = -1000014, STORE = -1000015;
-    private static final int LOW = Integer.MIN_VALUE, HIGH = Integer.MAX_VALUE;
-
-    private static int wrong = 0;
-    private static String promise = "";
-
-    private static void due(String call, int got, int want) {
-        if (got != want) {
-            wrong++;
-            System.out.println(promise + ": " + call + " answered " + got + ", due is " + want);
-        }
-    }
-
+public final class PromisesTest extends Dues {
     public static void main(String[] args) {
         newObject();
         sheet();
@@ -42,27 +28,11 @@ public final class PromisesTest {
         trace();
         count();
         status();
-        System.out.println(wrong == 0 ? "all promises hold" : wrong + " answers are not as due");
-        if (wrong != 0) {
-            System.exit(1);
-        }
-    }
-
-    /** Makes THE ORDER of these STRIKERS, by SHEET 7. */
-    private static void orderOf(InningsHouse x, int... strikers) {
-        write(x, 7, strikers);
-        due("order(7, ..)", x.order(7, 0, strikers.length), strikers.length);
-    }
-
-    private static void write(InningsHouse x, int sheet, int... items) {
-        due("sheet(" + sheet + ", 2, ..)", x.sheet(sheet, 2, items.length), items.length);
-        for (int i = 0; i < items.length; i++) {
-            due("set(" + sheet + ", " + i + ", ..)", x.set(sheet, i, items[i]), items[i]);
-        }
+        end();
     }
 
     private static void newObject() {
-        promise = "1 A new object";
+        promise("1 A new object");
         InningsHouse x = new InningsHouse();
         for (int what = 0; what <= 6; what++) {
             due("count(" + what + ")", x.count(what), 0);
@@ -85,7 +55,7 @@ public final class PromisesTest {
     }
 
     private static void sheet() {
-        promise = "2 sheet";
+        promise("2 sheet");
         InningsHouse x = new InningsHouse();
         due("sheet(0, 0, 0)", x.sheet(0, 0, 0), 0);
         due("sheet(7, 2, 60)", x.sheet(7, 2, 60), 60);
@@ -110,7 +80,7 @@ public final class PromisesTest {
     }
 
     private static void set() {
-        promise = "3 set";
+        promise("3 set");
         InningsHouse x = new InningsHouse();
         due("set(0, 0, 1)", x.set(0, 0, 1), NULL);
         x.sheet(0, 0, 2);
@@ -136,7 +106,7 @@ public final class PromisesTest {
     }
 
     private static void copy() {
-        promise = "4 copy";
+        promise("4 copy");
         InningsHouse x = new InningsHouse();
         for (int s = 0; s < 5; s++) {
             x.striker(s, 0, 0, 0, 0, 0);
@@ -180,7 +150,7 @@ public final class PromisesTest {
     }
 
     private static void drop() {
-        promise = "5 drop";
+        promise("5 drop");
         InningsHouse x = new InningsHouse();
         x.sheet(3, 1, 17);
         due("drop(3)", x.drop(3), 17);
@@ -194,7 +164,7 @@ public final class PromisesTest {
     }
 
     private static void behind() {
-        promise = "6 behind";
+        promise("6 behind");
         InningsHouse x = new InningsHouse();
         // Men 0 .. 7: the men behind each ACT 0 to 8 with nobody out, -1 where it cannot be, then RUNS.
         int[][] men = {{0, 1, 2, 3, 4, 5, 6, 7}, {1, 3, 3, 7, 5, 7, 7, 7}, {1, 3, 5, 7, 1, 3, 5, 7},
@@ -224,7 +194,7 @@ public final class PromisesTest {
     }
 
     private static void striker() {
-        promise = "7 striker";
+        promise("7 striker");
         InningsHouse x = new InningsHouse();
         due("striker of all that is", x.striker(200, 200, 200, 200, 200, 1000), 0);
         due("chance(0, 0)", x.chance(0, 0), 0);
@@ -253,7 +223,7 @@ public final class PromisesTest {
     }
 
     private static void train() {
-        promise = "8 train";
+        promise("8 train");
         InningsHouse x = new InningsHouse();
         x.striker(100, 200, 50, 10, 40, 300);
         due("train(0, 1, 150)", x.train(0, 1, 150), 100);
@@ -284,7 +254,7 @@ public final class PromisesTest {
     }
 
     private static void chance() {
-        promise = "9 chance";
+        promise("9 chance");
         InningsHouse x = new InningsHouse();
         x.striker(1, 20, 300, 4, 50, 66);
         int[] want = {625, 1, 20, 300, 4, 50, 66};
@@ -299,7 +269,7 @@ public final class PromisesTest {
     }
 
     private static void order() {
-        promise = "10 order";
+        promise("10 order");
         InningsHouse x = new InningsHouse();
         x.striker(0, 0, 0, 0, 0, 0);
         x.striker(0, 0, 0, 0, 0, 0);
@@ -328,7 +298,7 @@ public final class PromisesTest {
     }
 
     private static void striking() {
-        promise = "11 striking";
+        promise("11 striking");
         InningsHouse x = new InningsHouse();
         due("striking(NONE)", x.striking(NONE), 0);
         due("striking(0)", x.striking(0), BAD);
@@ -344,18 +314,8 @@ public final class PromisesTest {
         due("striking(BAD)", x.striking(BAD), BAD);
     }
 
-    /** 0 always a HOMER, 1 always OUT, 2 half a HOMER, half OUT, 3 always a WALK. */
-    private static InningsHouse withFour() {
-        InningsHouse x = new InningsHouse();
-        x.striker(0, 0, 0, 0, 1000, 0);
-        x.striker(0, 0, 0, 0, 0, 0);
-        x.striker(0, 0, 0, 0, 500, 0);
-        x.striker(1000, 0, 0, 0, 0, 0);
-        return x;
-    }
-
     private static void mean() {
-        promise = "12 mean";
+        promise("12 mean");
         InningsHouse x = withFour();
         due("no ORDER", x.mean(0, 0, 0), BAD);
         orderOf(x, 0);
@@ -391,7 +351,7 @@ public final class PromisesTest {
     }
 
     private static void likely() {
-        promise = "13 likely";
+        promise("13 likely");
         InningsHouse x = withFour();
         due("no ORDER", x.likely(0, 0, 0, 0), BAD);
         orderOf(x, 2);
@@ -435,7 +395,7 @@ public final class PromisesTest {
     }
 
     private static void worth() {
-        promise = "14 worth";
+        promise("14 worth");
         InningsHouse x = withFour();
         due("no ORDER", x.worth(0, 0, 0, 1), BAD);
         orderOf(x, 2, 1);
@@ -458,7 +418,7 @@ public final class PromisesTest {
     }
 
     private static void rate() {
-        promise = "15 rate";
+        promise("15 rate");
         InningsHouse x = withFour();
         due("no ORDER", x.rate(), STATE);
         orderOf(x, 0);
@@ -477,7 +437,7 @@ public final class PromisesTest {
     }
 
     private static void swapped() {
-        promise = "16 swapped";
+        promise("16 swapped");
         InningsHouse x = withFour();
         due("no ORDER", x.swapped(), STATE);
         orderOf(x, 2);
@@ -515,7 +475,7 @@ public final class PromisesTest {
     }
 
     private static void best() {
-        promise = "17 best";
+        promise("17 best");
         InningsHouse x = withFour();
         due("no ORDER", x.best(), STATE);
         orderOf(x, 2);
@@ -541,7 +501,7 @@ public final class PromisesTest {
     }
 
     private static void team() {
-        promise = "18 team";
+        promise("18 team");
         InningsHouse x = withFour();
         due("team(0, 3)", x.team(0, 3), NONE);
         due("team(0, 2)", x.team(0, 2), 3);
@@ -556,7 +516,7 @@ public final class PromisesTest {
     }
 
     private static void game() {
-        promise = "19 game";
+        promise("19 game");
         InningsHouse x = withFour();
         due("no TEAM", x.game(0, 0, 0, 0, 0), STATE);
         x.team(0, 1);
@@ -657,7 +617,7 @@ public final class PromisesTest {
     private static final int[] ROWS = {2, 1, 0, 2, 3, 0, 5, 0, 3, 0, 8, 0, 0, 16, 0, 0, 24, 0, 1, 1, 0};
 
     private static void log() {
-        promise = "20 log";
+        promise("20 log");
         InningsHouse x = new InningsHouse();
         write(x, 0, ROWS);
         due("no CLASH", x.log(0, 0, 7, 0), NONE);
@@ -719,7 +679,7 @@ public final class PromisesTest {
     }
 
     private static void learn() {
-        promise = "21 learn";
+        promise("21 learn");
         InningsHouse x = new InningsHouse();
         write(x, 0, ROWS);
         due("learn", x.learn(0, 0, 7, 1000), 0);
@@ -754,19 +714,8 @@ public final class PromisesTest {
         due("BAD ahead of FULL", x.learn(0, 0, 21, 0), BAD);
     }
 
-    /** 0 plain, 1 SAFE and swift, 2 STRONG and swift, 3 QUICK, 4 with hits enough but too many OUTS. */
-    private static InningsHouse withKinds() {
-        InningsHouse x = new InningsHouse();
-        x.striker(100, 100, 100, 30, 19, 699);
-        x.striker(100, 100, 100, 30, 29, 700);
-        x.striker(100, 100, 100, 20, 40, 1000);
-        x.striker(0, 0, 0, 0, 31, 700);
-        x.striker(0, 0, 0, 100, 249, 0);
-        return x;
-    }
-
     private static void kind() {
-        promise = "22 kind";
+        promise("22 kind");
         InningsHouse x = withKinds();
         due("kind(0)", x.kind(0), 0);
         due("kind(1)", x.kind(1), 1);
@@ -784,7 +733,7 @@ public final class PromisesTest {
     }
 
     private static void as() {
-        promise = "23 as";
+        promise("23 as");
         InningsHouse x = withKinds();
         int[][] is = {{1, 0, 0, 0}, {1, 1, 0, 0}, {1, 1, 1, 0}, {1, 0, 0, 1}};
         int[] out = {651, 641, 640, 969};
@@ -801,7 +750,7 @@ public final class PromisesTest {
     }
 
     private static void ask() {
-        promise = "24 ask";
+        promise("24 ask");
         InningsHouse x = withKinds();
         due("SIZE plain", x.ask(0, 0), 699);
         due("SIZE SAFE", x.ask(1, 0), 700 + 1000 - 641);
@@ -826,7 +775,7 @@ public final class PromisesTest {
     }
 
     private static void trace() {
-        promise = "25 trace";
+        promise("25 trace");
         InningsHouse x = withKinds();
         due("trace(0) at first", x.trace(0), NONE);
         traced(x, 2, 1, 22, 21, 20, 12, 11, 10);
@@ -845,7 +794,7 @@ public final class PromisesTest {
     }
 
     private static void count() {
-        promise = "26 count";
+        promise("26 count");
         InningsHouse x = withKinds();
         x.sheet(0, 0, 0);
         x.sheet(5, 0, 1);
@@ -867,7 +816,7 @@ public final class PromisesTest {
     }
 
     private static void status() {
-        promise = "27 status";
+        promise("27 status");
         InningsHouse x = withKinds();
         due("at first", x.status(), 0);
         x.drop(0);
