@@ -481,6 +481,14 @@ public final class BoundariesTest extends Dues {
         answers(999000, x, "mean", 16, 0, 1);
         answers(1997001, x, "mean", 16, 0, 2);
         answers(2994003, x, "mean", 16, 0, 3);
+        says("with CHANCE c above 0");
+        x.striker(0, 0, 0, 0, 1, 0);
+        orderOf(x, 5);
+        answers(1000, x, "mean", 0, 0, 1);
+        answers(4000, x, "mean", 7, 0, 1);
+        // 1 * 1001000 and 999 * 1000 of two out, then 2000 with one out.
+        answers(1001, x, "mean", 16, 0, 2);
+        answers(2000, x, "mean", 8, 0, 2);
     }
 
     private static void likely() {
@@ -499,7 +507,9 @@ public final class BoundariesTest extends Dues {
             for (int r = 0; r <= 8; r++) {
                 answers(r == n ? 1000000 : 0, x, "likely", 0, 0, n, r);
             }
-            says("LIKELY of 9 is that of 9 RUNS or more");
+        }
+        says("LIKELY of 9 is that of 9 RUNS or more");
+        for (int n = 0; n <= 30; n++) {
             answers(n >= 9 ? 1000000 : 0, x, "likely", 0, 0, n, 9);
         }
         says("LIKELY of r less RUNS behind it (0 for fewer than none)");
@@ -515,6 +525,7 @@ public final class BoundariesTest extends Dues {
         answers(0, x, "likely", 7, 0, 9, 8);
         answers(1000000, x, "likely", 7, 0, 9, 9);
         answers(1000000, x, "likely", 7, 0, 30, 9);
+        says("else 0 where n is 0 or the STANDING 24; else for each ACT c times that of k less RUNS or more behind it");
         // Two out: half of it nine times over, cut; then it is told, whatever more strikes bring.
         orderOf(x, 2);
         answers(0, x, "likely", 16, 0, 8, 9);
@@ -523,6 +534,17 @@ public final class BoundariesTest extends Dues {
         answers(3906, x, "likely", 16, 0, 8, 8);
         answers(1953, x, "likely", 16, 0, 9, 8);
         likelyOfPlaces(x);
+        says("All that is divided is cut towards 0.");
+        x.striker(0, 0, 0, 0, 999, 0);
+        orderOf(x, 4);
+        // Two out: 999 * 998001 = 997002.999 thousands.
+        answers(998001, x, "likely", 16, 0, 2, 2);
+        answers(997002, x, "likely", 16, 0, 3, 3);
+        x.striker(0, 0, 0, 0, 1, 0);
+        orderOf(x, 5);
+        answers(1000, x, "likely", 0, 0, 1, 1);
+        answers(1, x, "likely", 0, 0, 2, 2);
+        answers(0, x, "likely", 0, 0, 3, 3);
     }
 
     private static void likelyOfPlaces(InningsHouse x) {
@@ -609,6 +631,11 @@ public final class BoundariesTest extends Dues {
         orderIs(x, 1, 0);
         orderOf(x, 2, 2, 2, 2, 2, 2, 2, 2, 2);
         answers(0, x, "swapped");
+        // Nothing of a longer ORDER comes into a shorter one.
+        orderOf(x, 0, 0, 0, 0, 0, 0, 0, 0, 0);
+        orderOf(x, 1, 1);
+        answers(0, x, "swapped");
+        orderIs(x, 1, 1);
         // HOMER at 2: RATE 2; by 0 and 1 the same; by 0 and 2 it is 3, and no more is to come.
         orderOf(x, 1, 1, 0);
         answers(1, x, "swapped");
@@ -643,18 +670,28 @@ public final class BoundariesTest extends Dues {
         answers(60000000, x, "best");
         orderIs(x, 0);
         orderOf(x, 1, 1, 1, 1, 1, 0);
-        // From 0 or from 3 the HOMER must be one of three: met from both only at 2 and 5, then from one alone.
+        // Wherever it stands the HOMER is met once, from 0 or from 3.
         answers(1000000, x, "best");
         orderIs(x, 0, 1, 1, 1, 1, 1);
         orderOf(x, 0, 1, 1, 1, 1, 1, 1);
         answers(STATE, x, "best");
         orderIs(x, 0, 1, 1, 1, 1, 1, 1);
+        // No RUN ever: RATE 0 is the greatest, too.
+        orderOf(x, 1, 1, 1);
+        answers(0, x, "best");
+        orderIs(x, 1, 1, 1);
+        // Nothing of a longer ORDER comes into a shorter one.
+        orderOf(x, 0, 0, 0, 0, 0, 0, 0, 0, 0);
+        orderOf(x, 1, 1);
+        answers(0, x, "best");
+        orderIs(x, 1, 1);
+        says("THE ORDER becomes BEST: its RATE.");
         says("of several the first as a row of numbers.");
         orderOf(x, 1, 0);
         answers(5000000, x, "best");
         orderIs(x, 0, 1);
         bestOfAlike();
-        bestOfFour();
+        bestOfAll();
     }
 
     /** STRIKERS who are all alike: each order has the same RATE. */
@@ -674,29 +711,86 @@ public final class BoundariesTest extends Dues {
         orderIs(x, 4, 5, 6, 7, 8, 9);
     }
 
-    private static void bestOfFour() {
+    /** Six who differ, each time with other numbers, so that the best row is met early and late among all. */
+    private static void bestOfAll() {
         says("of all orders of the STRIKERS as they stand that with the greatest RATE");
-        InningsHouse x = new InningsHouse();
-        x.striker(100, 150, 50, 10, 30, 0);
-        x.striker(20, 100, 10, 0, 0, 0);
-        x.striker(300, 200, 100, 50, 100, 0);
-        x.striker(50, 50, 150, 20, 60, 0);
-        int most = -1;
-        int[] first = {};
-        for (int k = 0; k < 256; k++) {
-            int[] row = {k >> 6, k >> 4 & 3, k >> 2 & 3, k & 3};
-            if ((1 << row[0] | 1 << row[1] | 1 << row[2] | 1 << row[3]) == 15) {
+        int[][] rows = {{5, 4, 3, 2, 1, 0}, {4, 1, 0, 2, 3}, {2, 5, 0, 3}, {5, 0, 5, 1, 1, 2}, {3, 1, 2}, {1, 1, 4, 4}};
+        for (int shift = 0; shift < 6; shift++) {
+            for (int[] row : rows) {
+                Trial trial = new Trial(shift, row);
+                trial.tryAll(0);
+                InningsHouse x = withSix(shift);
+                // Nothing of a longer ORDER comes into a shorter one.
+                orderOf(x, 5, 5, 5, 5, 5, 5, 5, 5, 5);
                 orderOf(x, row);
-                if (x.rate() > most) {
-                    most = x.rate();
-                    first = row;
+                answers(trial.most, x, "best");
+                orderIs(x, trial.first);
+                answers(trial.most, x, "rate");
+            }
+        }
+    }
+
+    private static InningsHouse withSix(int shift) {
+        int[][] six = {{100, 150, 50, 10, 30}, {20, 100, 10, 0, 0}, {300, 200, 100, 50, 100}, {50, 50, 150, 20, 60},
+            {0, 0, 0, 0, 250}, {250, 0, 0, 0, 0}};
+        InningsHouse x = new InningsHouse();
+        for (int s = 0; s < 6; s++) {
+            int[] c = six[(s + shift) % 6];
+            x.striker(c[0], c[1], c[2], c[3], c[4], 0);
+        }
+        x.sheet(0, 0, 6);
+        return x;
+    }
+
+    /** All rows of the same numbers, the least first, each with its rate(). */
+    private static final class Trial {
+        final int shift;
+        final int[] left = new int[6];
+        final int[] row;
+        int[] first = {};
+        int most = -1;
+        int tried = 0;
+        InningsHouse x;
+
+        Trial(int shift, int[] row) {
+            this.shift = shift;
+            this.row = row.clone();
+            for (int s : row) {
+                left[s]++;
+            }
+        }
+
+        void tryAll(int place) {
+            if (place == row.length) {
+                tryRow();
+                return;
+            }
+            for (int s = 0; s < 6; s++) {
+                if (left[s] > 0) {
+                    left[s]--;
+                    row[place] = s;
+                    tryAll(place + 1);
+                    left[s]++;
                 }
             }
         }
-        orderOf(x, 3, 2, 1, 0);
-        answers(most, x, "best");
-        orderIs(x, first);
-        answers(most, x, "rate");
+
+        private void tryRow() {
+            // A new object in time: each is used for at most 512 calls.
+            if (tried % 50 == 0) {
+                x = withSix(shift);
+            }
+            tried++;
+            for (int place = 0; place < row.length; place++) {
+                x.set(0, place, row[place]);
+            }
+            x.order(0, 0, row.length);
+            int rate = x.rate();
+            if (rate > most) {
+                most = rate;
+                first = row.clone();
+            }
+        }
     }
 
     private static void team() {
@@ -720,6 +814,8 @@ public final class BoundariesTest extends Dues {
         halvesAndLead();
         halvesOver();
         cappedLead();
+        otherStrikers();
+        cutWins();
         choices();
         walkHim();
     }
@@ -794,11 +890,53 @@ public final class BoundariesTest extends Dues {
         InningsHouse x = gameOf(0, 0);
         answers(0, x, "game", 2, 9, 7, 1, 0);
         answers(0, x, "game", 2, 9, 0, 12, 0);
+        // A half with TEAM 1 behind it tells 9 from 8.
+        x = gameOf(0, 2);
+        int ofNine = x.game(1, 9, 0, 12, 0);
+        due("WIN of LEAD 9 is above that of 8", ofNine > x.game(1, 8, 0, 12, 0) ? 1 : 0, 1);
+        answers(ofNine, x, "game", 2, 9, 7, 1, 0);
+        answers(ofNine, x, "game", 2, 6, 7, 1, 0);
+        answers(ofNine, x, "game", 2, 5, 7, 1, 0);
+        answers(ofNine, x, "game", 2, 0, 0, 12, 0);
         // TEAM 1 makes 4 more of -9, TEAM 0 twelve RUNS then: -13 would lose, and 3 must hold for one half.
         x = gameOf(0, 2);
         answers(578125, x, "game", 1, 3, 0, 12, 0);
         answers(578125, x, "game", 2, -9, 0, 12, 0);
         answers(578125, x, "game", 3, -9, 7, 1, 0);
+    }
+
+    private static void otherStrikers() {
+        says("each one STRIKER, who strikes always");
+        // Five halves asked of a new object, then again with other STRIKERS: nothing of the first is kept.
+        InningsHouse x = gameOf(0, 1);
+        answers(1000000, x, "game", 5, -1, 0, 12, 0);
+        answers(0, x, "team", 0, 1);
+        answers(0, x, "game", 5, -1, 0, 12, 0);
+        answers(500000, x, "game", 5, 0, 0, 12, 0);
+        answers(1, x, "team", 1, 0);
+        answers(0, x, "game", 5, 9, 0, 12, 0);
+        answers(1000, x, "train", 0, 5, 0);
+        answers(1000000, x, "game", 5, 9, 0, 12, 0);
+        answers(0, x, "train", 1, 5, 1000);
+        answers(1000000, x, "game", 5, 0, 0, 12, 0);
+    }
+
+    private static void cutWins() {
+        says("ACTS 0 to 5 by CHANCES, each WIN behind it, n - 1, all added (chances times WIN), by 1000");
+        // TEAM 1 has one HOMER of 1000, of two RUNS with a man on 1: 999 * 998001 = 997002.999 thousands.
+        InningsHouse x = new InningsHouse();
+        x.striker(0, 0, 0, 0, 1, 0);
+        x.team(0, 0);
+        x.team(1, 0);
+        answers(999000, x, "game", 1, 1, 17, 1, 0);
+        answers(998001, x, "game", 1, 1, 9, 2, 0);
+        answers(997002, x, "game", 1, 1, 1, 3, 0);
+        answers(0, x, "game", 1, 1, 1, 3, 1);
+        // One HOMER of 1000 for TEAM 0, none of TEAM 1: 999 * 500000 and 1000000.
+        x.striker(0, 0, 0, 0, 0, 0);
+        answers(0, x, "team", 1, 1);
+        answers(500500, x, "game", 2, 0, 0, 1, 0);
+        answers(500, x, "game", 2, -1, 0, 1, 0);
     }
 
     private static void choices() {
@@ -905,7 +1043,7 @@ public final class BoundariesTest extends Dues {
         for (int act = 0; act <= 8; act++) {
             answers(times[act], x, "log", 0, 0, 7, 10 + act);
         }
-        says("A LOG of n rows (1 to 20), ITEMS of a SHEET from i on");
+        says("A LOG of n rows (1 to 20), ITEMS of a SHEET from i on: 0 the CLASH (NONE: there is none)");
         // Behind the third row it would stand otherwise: from 0 on it clashes or fits anew.
         answers(NONE, x, "log", 0, 3, 2, 0);
         answers(0, x, "log", 0, 9, 1, 0);
@@ -1098,6 +1236,8 @@ public final class BoundariesTest extends Dues {
         answers(0, x, "ask", 0, 0);
         says("11 of SAFE ones: what 10 gives, and 1000 less OUT.");
         answers(2000, x, "ask", 1, 0);
+        x.train(1, 1, 350);
+        answers(1350, x, "ask", 1, 0);
         says("12 of STRONG ones: what 11 gives, twice.");
         answers(4000, x, "ask", 2, 0);
         says("13 of QUICK ones: what 10 gives, less MARK.");

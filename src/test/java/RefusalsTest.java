@@ -226,6 +226,7 @@ public final class RefusalsTest extends Dues {
         refused(NULL, "copy", 4, 0, 0, 0, 1);
         refused(NULL, "copy", 0, 0, 4, 0, 1);
         refused(NULL, "copy", 4, 0, 4, 0, 0);
+        says("then FINDINGS, of several the first in time");
         refused(NULL, "copy", 4, -1, 0, 0, 1);
         refused(NULL, "copy", 0, 0, 4, -1, -1);
         for (int a = 0; a <= 2; a++) {
