@@ -28,7 +28,9 @@ public final class LanguageTest {
             look(inside);
         }
         look(InningsHouse.class);
-        source(Files.readString(Path.of("src/main/java/InningsHouse.java")));
+        String text = Files.readString(Path.of("src/main/java/InningsHouse.java"));
+        source(text);
+        faceOfDocument(text);
         System.out.println(wrong == 0 ? "the language is kept" : wrong + " rules are broken");
         if (wrong != 0) {
             System.exit(1);
@@ -63,6 +65,26 @@ public final class LanguageTest {
         fault(!Modifier.isFinal(InningsHouse.class.getModifiers()), "1: the class is not final");
         fault(InningsHouse.class.getDeclaredConstructors().length != 1, "1: there is another constructor");
         fault(InningsHouse.class.getDeclaredClasses().length + 1 > MOST_CLASSES, "11: too many classes");
+    }
+
+    /** Each line of the document's face stands in the program, word for word and in the same order. */
+    private static void faceOfDocument(String text) throws IOException {
+        Path path = Path.of("../shared/DOC.md");
+        if (!Files.isReadable(path)) {
+            System.out.println("no document at " + path + ": its face is not looked up");
+            return;
+        }
+        Matcher told = Pattern.compile("\n {4}(public [^;]*);").matcher(Files.readString(path));
+        int lines = 0;
+        int from = 0;
+        while (told.find()) {
+            lines++;
+            String line = told.group(1).endsWith(")") ? told.group(1) + " {" : told.group(1) + ";";
+            int at = text.indexOf("\n    " + line + "\n", from);
+            fault(at < 0, "1: the face lacks, or has out of its order: " + line);
+            from = Math.max(from, at);
+        }
+        fault(lines != FACE.split(",").length + 2, "1: the document's face has " + lines + " lines");
     }
 
     private static void look(Class<?> type) {
