@@ -85,6 +85,20 @@ public final class LanguageTest {
             from = Math.max(from, at);
         }
         fault(lines != FACE.split(",").length + 2, "1: the document's face has " + lines + " lines");
+        headingsOfDocument(Files.readString(path), text);
+    }
+
+    /** Where the document says what stands ahead of some calls, it stands right ahead of the first of them. */
+    private static void headingsOfDocument(String document, String text) {
+        Matcher told = Pattern.compile("Ahead of the calls `(\\w+)`.* the interface says: (---- [^.]*)\\.")
+            .matcher(document);
+        int headings = 0;
+        while (told.find()) {
+            headings++;
+            String line = "\n    // " + told.group(2) + "\n\n    public int " + told.group(1) + "(";
+            fault(!text.contains(line), "1: " + told.group(2) + " does not stand ahead of " + told.group(1));
+        }
+        fault(headings == 0, "1: the document says nothing of what stands ahead of calls");
     }
 
     private static void look(Class<?> type) {
